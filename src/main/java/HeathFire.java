@@ -433,7 +433,6 @@ public final class HeathFire {
             for (int n = 0; n < cells; n++) {
                 tell(n, WATER, 0, 0, 0);
             }
-            age++;
         }
 
         void tell(int n, int newGround, int newFuel, int newDamp, int newHeight) {

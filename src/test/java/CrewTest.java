@@ -21,6 +21,7 @@ public final class CrewTest {
     cutsNothing();
     cutBegunAnewTakesTwoSteps();
     douses();
+    dousesTheLeastNumber();
     dousesWithoutWater();
     fills();
     fillsOnItsOwnCell();
@@ -289,6 +290,16 @@ public final class CrewTest {
     due.cells("the hottest, not the first", y, 0, 2, 1, 1, 1, 0, 1, 1, 5, 2);
   }
 
+  private static void dousesTheLeastNumber() {
+    HeathFire x = Make.even(2, 3, PEAT, 100, 100);
+    x.light(0, 0);
+    x.light(1, 0);
+    x.crew(3);
+    x.plan(0, DOUSE, 0);
+    x.step(1);
+    due.cells("0 of 0, 1", x, 0, 5, 2, 1, 1, 1, 1);
+  }
+
   private static void dousesWithoutWater() {
     HeathFire x = Make.even(3, 6, PEAT, 200, 100);
     int[] first = {0, 1, 2, 6, 8, 12, 13, 14};
@@ -326,6 +337,16 @@ public final class CrewTest {
     x.step(1);
     due.crew("no WATER about it", x, 0, 0, 10, NONE, 0, 0, 0, 0, 0);
     due.crew("WATER about it", x, 1, 4, 40, NONE, 0, 0, 0, 0, 0);
+    for (int n = 0; n < 9; n++) {
+      if (n != 4) {
+        HeathFire y = road(3, 3);
+        y.cell(n, 0, 0, 0, 0);
+        y.crew(4);
+        y.plan(0, FILL, 0);
+        y.step(1);
+        due.is("WATER at " + n, y.ofCrew(0, 1), 40);
+      }
+    }
   }
 
   private static void fillsOnItsOwnCell() {

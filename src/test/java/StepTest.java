@@ -28,6 +28,7 @@ public final class StepTest {
     smokeIsLostOutside();
     weatherOfTheStep();
     front();
+    theGreatestGrid();
     due.end();
   }
 
@@ -406,6 +407,35 @@ public final class StepTest {
     due.is("rain in steps 1 and 2", x.about(0, 2), 12);
     x.step(1);
     due.is("no rain in step 3", x.about(0, 2), 12);
+  }
+
+  /** The greatest grid, lit in its four corners: by symmetry all four quarters go alike in calm. */
+  private static void theGreatestGrid() {
+    HeathFire x = Make.even(16, 16, GRASS, 200, 0);
+    x.light(0, 0);
+    x.light(15, 0);
+    x.light(240, 0);
+    x.light(255, 0);
+    x.crew(136);
+    x.plan(0, 2, 0);
+    x.keep(0);
+    x.step(1);
+    due.is("the last of the front", x.front(11), 254);
+    due.is("no more", x.front(12), NONE);
+    due.is("lit corners and 12 about them", x.differs(0), 16);
+    due.is("18 HEAT is not enough", x.ahead(254, 1), NONE);
+    due.is("21 HEAT is", x.ahead(254, 2), 2);
+    x.step(19);
+    for (int r = 0; r < 7; r++) {
+      for (int c = 0; c < 7; c++) {
+        due.is("ARRIVAL in the southeast", x.about((15 - r) * 16 + 15 - c, 7), x.about(r * 16 + c, 7));
+        due.is("HEAT in the northeast", x.about(r * 16 + 15 - c, 3), x.about(r * 16 + c, 3));
+      }
+    }
+    due.is("step(500)", x.step(500), 520);
+    due.is("all BURNT but the CUT one", x.many(3), 255);
+    due.is("FUEL burnt", x.told(10), 255 * 200);
+    due.is("no front any more", x.front(0), NONE);
   }
 
   private static void front() {

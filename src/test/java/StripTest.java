@@ -19,6 +19,7 @@ public final class StripTest {
     doesNotSplitOneRow();
     doesNotSplitEight();
     joinsBelowHalfTheMean();
+    joinsTheFirst();
     halfOfTheMeanIsCut();
     offDoesNothing();
     allIsAlikeWhateverTheStrips();
@@ -251,6 +252,32 @@ public final class StripTest {
     y.step(1);
     due.strips("in the middle", y, 0, 1, 20, 2, 3, 20, 4, 5, 0, 6, 6, 10, 7, 7, 10, 8, 8, 10);
     due.is("joined", y.told(13), 1);
+  }
+
+  /** The first of four strips is split and burnt out; then, with the others at work, its halves are joined. */
+  private static void joinsTheFirst() {
+    HeathFire x = Make.even(16, 2, GRASS, 12, 100);
+    x.balanced(true);
+    x.strips(4);
+    for (int i = 0; i < 5; i++) {
+      x.light(i, 0);
+      x.light(8 + i, 1);
+      x.light(16 + i, 1);
+      x.light(24 + i, 1);
+    }
+    x.step(1);
+    due.strips("28 above twice 13", x, 0, 1, 0, 2, 3, 0, 4, 7, 8, 8, 11, 8, 12, 15, 8);
+    x.step(1);
+    due.strips("8 below 18 by 2", x, 0, 3, 0, 4, 7, 28, 8, 11, 28, 12, 15, 28);
+    due.is("split", x.told(12), 1);
+    due.is("joined", x.told(13), 1);
+    x.keep(0);
+    x.clear();
+    due.is("split, behind clear()", x.told(12), 0);
+    due.is("joined, behind clear()", x.told(13), 0);
+    x.back(0);
+    due.is("split, behind back()", x.told(12), 1);
+    due.is("joined, behind back()", x.told(13), 1);
   }
 
   /** Eight strips, so that none is split: of 2, 2, 1 .. rows. */
