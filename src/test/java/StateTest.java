@@ -20,39 +20,6 @@ public final class StateTest {
     due.end();
   }
 
-  /** All that can be asked, in one row. */
-  private static int[] all(HeathFire x) {
-    int[] row = new int[14 + 8 * x.told(0) * x.told(1) + 8 * 8 + 3 * 8 + 2];
-    int at = 0;
-    for (int what = 0; what < 14; what++) {
-      row[at++] = x.told(what);
-    }
-    for (int n = 0; n < x.told(0) * x.told(1); n++) {
-      for (int what = 0; what < 8; what++) {
-        row[at++] = x.about(n, what);
-      }
-    }
-    for (int i = 0; i < 8; i++) {
-      for (int what = 0; what < 8; what++) {
-        row[at++] = x.ofCrew(i, what);
-      }
-      for (int what = 0; what < 3; what++) {
-        row[at++] = x.strip(i, what);
-      }
-    }
-    row[at++] = x.front(0);
-    row[at++] = x.front(3);
-    return row;
-  }
-
-  private static void same(String name, HeathFire x, int[] want) {
-    int[] got = all(x);
-    due.is(name + ", answers", got.length, want.length);
-    for (int i = 0; i < want.length && i < got.length; i++) {
-      due.is(name + ", answer " + i, got[i], want[i]);
-    }
-  }
-
   private static HeathFire burning() {
     HeathFire x = Make.even(6, 4, GRASS, 70, 3);
     x.cell(23, 0, 0, 0, 0);
@@ -95,33 +62,42 @@ public final class StateTest {
     due.is("back(2) again", x.back(2), 0);
   }
 
-  private static void backIsAsItWas() {
+  private static HeathFire kept() {
     HeathFire x = burning();
     x.step(3);
     due.is("keep", x.keep(1), 3);
-    int[] then = all(x);
+    return x;
+  }
+
+  private static void backIsAsItWas() {
+    HeathFire x = kept();
     x.step(6);
-    int[] later = all(x);
     due.is("back", x.back(1), 3);
-    same("back", x, then);
-    x.step(6);
-    same("on again", x, later);
-    due.is("back once more", x.back(1), 3);
-    same("back once more", x, then);
+    Look.alike(due, "back", x, kept());
+    HeathFire y = kept();
+    HeathFire z = kept();
+    y.step(6);
+    y.back(1);
+    y.step(6);
+    z.step(6);
+    Look.alike(due, "on again", y, z);
+    HeathFire w = kept();
+    w.step(6);
+    w.back(1);
+    w.step(2);
+    due.is("back once more", w.back(1), 3);
+    Look.alike(due, "back once more", w, kept());
   }
 
   private static void backBringsCrewsAndStrips() {
-    HeathFire x = burning();
-    x.step(3);
-    x.keep(0);
-    int[] then = all(x);
+    HeathFire x = kept();
     x.crew(18);
     x.halt(0);
     x.plan(0, 0, 50);
     x.strips(6);
-    x.back(0);
-    same("crews and strips", x, then);
+    x.back(1);
     due.is("a CUT goes on where it was", x.ofCrew(1, 2), 2);
+    Look.alike(due, "crews and strips", x, kept());
     x.step(1);
     due.is("in its second STEP", x.ofCrew(1, 6), 1);
     due.is("the next crew", x.crew(18), 2);
@@ -213,14 +189,11 @@ public final class StateTest {
   }
 
   private static void keepsOverClear() {
-    HeathFire x = burning();
-    x.step(4);
-    x.keep(2);
-    int[] then = all(x);
+    HeathFire x = kept();
     x.clear();
     due.is("clear", x.told(2), 0);
-    due.is("back", x.back(2), 4);
-    same("over clear()", x, then);
+    due.is("back", x.back(1), 3);
+    Look.alike(due, "over clear()", x, kept());
   }
 
   /** A row of grass, the wind blows along it: each cell catches in the step behind the one before it. */
@@ -262,31 +235,32 @@ public final class StateTest {
     due.is("BURNT, ahead", x.ahead(0, 200), NONE);
   }
 
-  private static void aheadLeavesAllAsItIs() {
-    HeathFire x = burning();
+  private static HeathFire lookedAhead(int n) {
+    HeathFire x = kept();
     x.balanced(true);
-    x.step(2);
-    x.keep(0);
-    int[] then = all(x);
-    for (int n = 0; n < 24; n++) {
-      x.ahead(n, 200);
+    for (int cell = 0; cell < 24; cell++) {
+      x.ahead(cell, n);
     }
-    same("ahead", x, then);
-    due.is("kept stays", x.differs(0), 0);
-    HeathFire y = burning();
+    return x;
+  }
+
+  private static void aheadLeavesAllAsItIs() {
+    HeathFire y = kept();
     y.balanced(true);
-    y.step(2);
-    x.step(7);
+    HeathFire x = lookedAhead(200);
+    due.is("kept stays", x.differs(1), 0);
+    Look.alike(due, "ahead", x, y);
+    HeathFire z = lookedAhead(200);
     y.step(7);
-    same("and goes on alike", x, all(y));
-    x.clear();
+    z.step(7);
+    for (int what = 2; what < 14; what++) {
+      due.is("it goes on alike, told(" + what + ")", z.told(what), y.told(what));
+    }
+    HeathFire w = burning();
+    HeathFire v = burning();
+    v.step(60);
     for (int n = 0; n < 24; n++) {
-      int seen = x.ahead(n, 60);
-      HeathFire z = burning();
-      z.balanced(true);
-      z.clear();
-      z.step(60);
-      due.is("ahead(" + n + ", 60) is what comes", seen, z.about(n, 7));
+      due.is("ahead(" + n + ", 60) is what comes", w.ahead(n, 60), v.about(n, 7));
     }
   }
 
