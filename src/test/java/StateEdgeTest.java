@@ -41,6 +41,7 @@ public final class StateEdgeTest {
     aheadOfACellThatIsLitAndDoused();
     aheadByWEATHERThatComes();
     aheadLeavesAll();
+    whereAllIsFull();
     due.end();
   }
 
@@ -544,5 +545,41 @@ public final class StateEdgeTest {
     x.step(5);
     y.step(5);
     Look.alike(due, "and on", x, y);
+  }
+
+  /** The greatest grid with all that it can hold: 16 entries, 20 lights, 8 STRIPS, 8 CREWS with 12 ACTS, 3 places. */
+  private static void whereAllIsFull() {
+    HeathFire x = Make.even(16, 16, GRASS, 200, 0);
+    for (int i = 0; i < 16; i++) {
+      x.weather(600 + i, 0, 0, 0);
+    }
+    for (int i = 0; i < 20; i++) {
+      x.light(i, 0);
+    }
+    for (int i = 0; i < 8; i++) {
+      x.crew(248 + i);
+      for (int act = 0; act < 12; act++) {
+        x.plan(i, REST, 100);
+      }
+    }
+    x.strips(8);
+    x.balanced(true);
+    for (int place = 0; place < 3; place++) {
+      due.is("keep(" + place + ")", x.keep(place), 0);
+    }
+    int seen = x.ahead(255, 200);
+    due.is("the fire will come to the last cell", seen > 0 ? 1 : 0, 1);
+    due.is("step(500)", x.step(500), 500);
+    due.is("all is BURNT", x.many(3), 256);
+    due.is("it came as was seen", x.about(255, 7), seen);
+    due.crew("the last CREW", x, 7, 255, 10, NONE, 0, 1, 0, 0, 0);
+    for (int place = 0; place < 3; place++) {
+      int lit = 16 + 16 + 5;
+      due.is("all, then what is lit and lies about that", x.differs(place), place == 0 ? 256 : lit);
+      due.is("back(" + place + ")", x.back(place), 0);
+      due.crew("the last CREW, place " + place, x, 7, 255, 10, REST, 12, 0, 0, 0, 0);
+      due.is("the last STRIP, place " + place, x.strip(7, 1), 15);
+      x.step(1);
+    }
   }
 }
