@@ -3,7 +3,7 @@ public final class StateEdgeTest {
   private static final int NONE = HeathFire.NONE, UNKNOWN = HeathFire.UNKNOWN, OUTSIDE = HeathFire.OUTSIDE;
   private static final int STATE = HeathFire.STATE;
   private static final int WATER = 0, GRASS = 1, WOOD = 3, PEAT = 4, ROAD = 5;
-  private static final int REST = 0, GO = 1, CUT = 2, DOUSE = 3;
+  private static final int REST = 0, GO = 1, CUT = 2, DOUSE = 3, BACKFIRE = 5;
   private static final Due due = new Due("StateEdgeTest");
 
   public static void main(String[] args) {
@@ -32,6 +32,7 @@ public final class StateEdgeTest {
     differsInDAMPAlone();
     differsInHEATAlone();
     differsInSMOKEAlone();
+    differsNotInARRIVAL();
     differsInAllOrNone();
     aheadFrom0To200();
     aheadTheLastSTEP();
@@ -416,6 +417,28 @@ public final class StateEdgeTest {
     x.step(1);
     due.cells("SMOKE with wind", x, 4, 2, 1, 0, 0);
     due.is("differs", x.differs(0), 2);
+  }
+
+  /** One crew sets its cell on fire, the next one douses it in the same STEP: in STEP 0, or in STEP 1. */
+  private static void differsNotInARRIVAL() {
+    HeathFire x = Make.even(2, 2, PEAT, 100, 100);
+    x.crew(0);
+    x.crew(3);
+    x.keep(0);
+    x.plan(0, BACKFIRE, 0);
+    x.plan(1, DOUSE, 0);
+    x.step(2);
+    due.is("STEP 0", x.about(0, 7), 0);
+    x.keep(1);
+    x.back(0);
+    for (int crew = 0; crew < 2; crew++) {
+      x.plan(crew, REST, 1);
+      x.plan(crew, crew == 0 ? BACKFIRE : DOUSE, 0);
+    }
+    x.step(2);
+    due.is("STEP 1", x.about(0, 7), 1);
+    due.is("differs", x.differs(1), 0);
+    due.is("but from the first", x.differs(0), 1);
   }
 
   private static void differsInAllOrNone() {
